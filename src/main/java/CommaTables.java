@@ -595,19 +595,28 @@ public final class CommaTables {
                     fitting &= lanesFitting(table.cells[index]);
                 }
             }
-            // Text always fits, and the lanes' numbers rise in the order in which they are tried.
-            return allMissing ? LANE_TEXT : Integer.numberOfTrailingZeros(fitting);
+            return allMissing ? LANE_TEXT : firstLane(fitting);
         }
 
-        /** A set of lanes: bit n stands for lane n. */
+        /** The lanes' numbers rise in the order in which they are tried, and text is what is left. */
+        private static int firstLane(int fitting) {
+            for (int lane = 0; lane < LANE_TEXT; lane++) {
+                if ((fitting >> lane & 1) != 0) {
+                    return lane;
+                }
+            }
+            return LANE_TEXT;
+        }
+
+        /** A set of lanes but text, which always fits: bit n stands for lane n. */
         private int lanesFitting(int cell) {
-            int fitting = 1 << LANE_TEXT;
             if (Cell.wasQuoted(cell)) {
-                return fitting;
+                return 0;
             }
             if (Cell.means(pool, cell, "true") || Cell.means(pool, cell, "false")) {
-                return fitting | 1 << LANE_BOOLEAN;
+                return 1 << LANE_BOOLEAN;
             }
+            int fitting = 0;
             numeral.scan(cell);
             if (numeral.fitsInt()) {
                 fitting |= 1 << LANE_INT;
