@@ -12,6 +12,7 @@ public final class CommaTables {
     private static final int TABLE_LIMIT = 40;
     private static final int TRAY_LIMIT = 16000;
     private static final int FED_LIMIT = 65536;
+    private static final int TEXTS_LIMIT = 65536;
     private static final int WRITTEN_LIMIT = 30000;
     private static final int LINE_LIMIT = 500;
     private static final int ROW_LIMIT = LINE_LIMIT - 1;
@@ -47,6 +48,7 @@ public final class CommaTables {
     private final Table[] tables;
     private final int[] told;
     private int tableCount;
+    private int textsSize;
     private int toldCount;
     private int fedCount;
     private int faultPlace;
@@ -60,6 +62,7 @@ public final class CommaTables {
         tables = new Table[TABLE_LIMIT];
         told = new int[ROW_LIMIT];
         tableCount = 0;
+        textsSize = 0;
         toldCount = 0;
         fedCount = 0;
         faultPlace = NO_FAULT;
@@ -90,13 +93,14 @@ public final class CommaTables {
         int poolBefore = pool.count();
         faultPlace = parser.parse();
         tray.cut(0);
-        if (faultPlace != NO_FAULT || tableCount >= TABLE_LIMIT) {
+        Table table = faultPlace == NO_FAULT ? parser.toTable() : null;
+        int answer = table == null ? FAULTY : keep(table);
+        if (table == null || answer == NO_ROOM) {
             pool.cut(poolBefore);
-            return faultPlace != NO_FAULT ? FAULTY : NO_ROOM;
+            return answer;
         }
-        Table table = parser.toTable();
         guesser.guess(table);
-        return keep(table);
+        return answer;
     }
 
     public int place() {
@@ -179,12 +183,12 @@ public final class CommaTables {
         if (!hasAllTold(table, count)) {
             return NOT_THERE;
         }
-        if (tableCount >= TABLE_LIMIT) {
-            return NO_ROOM;
-        }
         Table picked = table.picked(told, count);
-        guesser.guess(picked);
-        return keep(picked);
+        int answer = keep(picked);
+        if (answer != NO_ROOM) {
+            guesser.guess(picked);
+        }
+        return answer;
     }
 
     public int write(int t) {
@@ -200,12 +204,16 @@ public final class CommaTables {
         return t < 1 || t > tableCount || t > tables.length ? null : tables[t - 1];
     }
 
+    /** The table's number, or NO_ROOM for one table too many or texts too long together. */
     private int keep(Table table) {
-        if (tableCount >= tables.length) {
+        // Picked rows count like read ones, though they share their bytes: the limit is of texts.
+        int textSize = writer.sizeOfText(table);
+        if (tableCount >= tables.length || textSize > TEXTS_LIMIT - textsSize) {
             return NO_ROOM;
         }
         tables[tableCount] = table;
         tableCount++;
+        textsSize += textSize;
         return tableCount;
     }
 
@@ -836,7 +844,7 @@ public final class CommaTables {
             return written.get(i);
         }
 
-        private int sizeOfText(Table table) {
+        int sizeOfText(Table table) {
             int size = table.names.length + table.cells.length;
             for (int name : table.names) {
                 size += sizeOfCell(name, nameNeedsQuotes(name));

@@ -45,8 +45,7 @@ final class PlainTables {
         tray = "";
         place = -1;
         try {
-            Table table = parse(text);
-            return tables.size() == 40 ? -12 : add(table);
+            return add(parse(text));
         } catch (Fault fault) {
             place = fault.place;
             return -20;
@@ -58,6 +57,13 @@ final class PlainTables {
     }
 
     private int add(Table table) {
+        int together = textOf(table).length();
+        for (Table kept : tables) {
+            together += textOf(kept).length();
+        }
+        if (tables.size() == 40 || together > 65536) {
+            return -12;
+        }
         tables.add(table);
         return tables.size();
     }
@@ -250,7 +256,7 @@ final class PlainTables {
             }
             rows.add(table.rows().get(number));
         }
-        return tables.size() == 40 ? -12 : add(new Table(table.names(), rows));
+        return add(new Table(table.names(), rows));
     }
 
     int write(int t) {
@@ -258,6 +264,15 @@ final class PlainTables {
         if (table == null) {
             return -14;
         }
+        String text = textOf(table);
+        if (text.length() > 30000) {
+            return -12;
+        }
+        written = text;
+        return written.length();
+    }
+
+    private static String textOf(Table table) {
         List<String> names = new ArrayList<>();
         for (String name : table.names()) {
             boolean odd = name.contains("\"") || name.contains(",") || !name.equals(name.strip());
@@ -272,11 +287,7 @@ final class PlainTables {
             }
             text.append(String.join(",", cells)).append('\n');
         }
-        if (text.length() > 30000) {
-            return -12;
-        }
-        written = text.toString();
-        return written.length();
+        return text.toString();
     }
 
     private static String quote(String word) {

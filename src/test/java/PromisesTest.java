@@ -9,6 +9,7 @@ public final class PromisesTest {
         promise3End();
         promise4Read();
         promise4ReadNoRoom();
+        promise4ReadNoRoomForItsText();
         promise5PlaceOfWrongBytes();
         promise5PlaceOfTooMany();
         promise5PlaceOfLooks();
@@ -25,6 +26,8 @@ public final class PromisesTest {
         promise15Pick();
         promise15PickGuessesAnew();
         promise15PickRefused();
+        promise15PickNoRoomForItsText();
+        promise15TextsCountAsWritten();
         promise16And17WriteAndOut();
         promise16WriteNoRoom();
         checks.finish();
@@ -132,6 +135,63 @@ public final class PromisesTest {
         x.row(1);
         checks.due("15: a row that is not there comes first", x.pick(1), -2);
         checks.due("15: no such table comes first", x.pick(41), -14);
+    }
+
+    private static final String WIDE_NAMES = "a,b,c,d,e,f,g,h,i,j,k,l,m,n,o,p\n";
+    private static final String WIDE_LINE = ("x".repeat(40) + ",").repeat(15) + "x".repeat(40) + "\n";
+
+    /** An object whose three tables' texts have this many bytes together: two wide ones, and the rest. */
+    private static CommaTables filled(int together) {
+        CommaTables x = new CommaTables();
+        Checks.read(x, WIDE_NAMES + WIDE_LINE);
+        int left = together - 2 * WIDE_NAMES.length() - WIDE_LINE.length() - 3;
+        pick(x, 1, left / WIDE_LINE.length());
+        int cells = left % WIDE_LINE.length();
+        String rest = "n\n" + ("y".repeat(40) + "\n").repeat(cells / 41) + "y".repeat(cells % 41) + "\n";
+        checks.due("filled: read", Checks.read(x, rest), 3);
+        int sum = 0;
+        for (int t = 1; t <= 3; t++) {
+            sum += sizeOfText(x, t);
+        }
+        checks.due("filled: bytes together", sum, together);
+        return x;
+    }
+
+    /** Not by write(), which refuses more than 30000 bytes; for names of one byte, and cells without ". */
+    private static int sizeOfText(CommaTables x, int t) {
+        int size = x.columns(t) * (x.rows(t) + 1) + x.columns(t);
+        for (int c = 0; c < x.columns(t); c++) {
+            for (int row = 0; row < x.rows(t); row++) {
+                size += x.length(t, c, row);
+            }
+        }
+        return size;
+    }
+
+    private static int pick(CommaTables x, int t, int count) {
+        for (int i = 0; i < count; i++) {
+            x.row(0);
+        }
+        return x.pick(t);
+    }
+
+    private static void promise4ReadNoRoomForItsText() {
+        checks.due("4: 65536 bytes together", Checks.read(filled(65536 - 6), "a\nxyz\n"), 4);
+        CommaTables x = filled(65536 - 5);
+        checks.due("4: 65537 bytes together", Checks.read(x, "a\nxyz\n"), -12);
+        checks.due("4: no fault there", x.place(), -1);
+        checks.due("4: the tray is empty then", x.end(1), -1);
+        checks.due("4: rows(4)", x.rows(4), -14);
+        checks.due("4: a fault is told even without room", Checks.read(x, "a\nxyz"), -20);
+        checks.due("4: what was refused counts nothing", Checks.read(x, "a\n-7\n"), 4);
+        checks.due("4: value(4, 0, 0)", x.value(4, 0, 0), -7);
+        checks.due("4: the old table stays", x.at(1, 15, 0, 39), 'x');
+        checks.due("4: not one byte is left", Checks.read(x, "a\n"), -12);
+        x = filled(65536 - 4);
+        checks.due("4: \" that are not written count nothing", Checks.read(x, "\"a\"\n12\n"), -12);
+        checks.due("4: \" that are not written count nothing", Checks.read(x, "\"a\"\n1\n"), 4);
+        checks.due("4: \" that are written count", Checks.read(filled(65536 - 5), "a\n 1\n"), -12);
+        checks.due("4: \" that are written count", Checks.read(filled(65536 - 7), "a\n 1\n"), 4);
     }
 
     private static void fault(String text, int place) {
@@ -467,6 +527,46 @@ public final class PromisesTest {
         checks.due("15: one of them is not there", x.pick(1), -2);
         checks.due("15: used up by it", x.row(0), 1);
         checks.due("15: no number was taken", x.pick(1), 2);
+    }
+
+    private static void promise15PickNoRoomForItsText() {
+        int room = WIDE_NAMES.length() + WIDE_LINE.length();
+        checks.due("15: 65536 bytes together", pick(filled(65536 - room), 1, 1), 4);
+        CommaTables x = filled(65536 - room + 1);
+        checks.due("15: 65537 bytes together", pick(x, 1, 1), -12);
+        checks.due("15: rows(4)", x.rows(4), -14);
+        checks.due("15: used up by it", x.row(0), 1);
+        x.row(1);
+        checks.due("15: a row that is not there comes first", x.pick(1), -2);
+        checks.due("15: no such table comes first", x.pick(4), -14);
+        checks.due("15: what was refused counts nothing", x.pick(1), 4);
+        checks.due("15: rows(4)", x.rows(4), 0);
+        checks.due("15: names count", pick(filled(65536 - WIDE_NAMES.length()), 1, 0), 4);
+        checks.due("15: names count", pick(filled(65537 - WIDE_NAMES.length()), 1, 0), -12);
+        x = new CommaTables();
+        Checks.read(x, WIDE_NAMES + WIDE_LINE);
+        checks.due("15: 98 rows of 656 bytes", pick(x, 1, 98), 2);
+        checks.due("15: rows(2)", x.rows(2), 98);
+        x = new CommaTables();
+        Checks.read(x, WIDE_NAMES + WIDE_LINE);
+        checks.due("15: 99 rows of 656 bytes", pick(x, 1, 99), -12);
+    }
+
+    /** Lines with 132 bytes of text, though their cells mean 63. */
+    private static void promise15TextsCountAsWritten() {
+        String names = "\"a,\",b\n";
+        String line = "\"" + "\"\"".repeat(40) + "\",\"" + "\"\"".repeat(23) + "\"\n";
+        for (int over = 0; over <= 1; over++) {
+            CommaTables x = new CommaTables();
+            String lastLine = "y".repeat(23 + over) + ",\n";
+            checks.due("15: size", 2 * (names.length() + lastLine.length()) + 496 * line.length(), 65536 + 2 * over);
+            Checks.read(x, names + line + lastLine);
+            for (int i = 0; i < 495; i++) {
+                x.row(0);
+            }
+            x.row(1);
+            checks.due("15: " + (65536 + 2 * over) + " bytes as written", x.pick(1), over == 0 ? 2 : -12);
+        }
     }
 
     private static void written(String text, String want) {

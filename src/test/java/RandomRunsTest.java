@@ -1,3 +1,4 @@
+import java.util.Arrays;
 import java.util.Random;
 
 /** Random runs of calls, held against PlainTables; the seeds are fixed, so every run is the same each time. */
@@ -11,6 +12,8 @@ public final class RandomRunsTest {
         "\"" + "\"\"".repeat(40) + "\"", "\"" + "\"\"".repeat(41) + "\""};
     private static final String[] NAMES = {"a", "b", "c", "d", "e", "f", "g", "h", "i", "j", "k", "l", "m", "n", "o",
         "p", "q", "\"r\"", "\"s,t\"", "\"u\"\"\"", " v", "w ", "y".repeat(20), "z".repeat(21), "\"\"", ""};
+    private static final String[] LONG_WORDS = {"x".repeat(40), "y".repeat(37), " " + "z".repeat(39), "\"" + "w".repeat(40) + "\"",
+        "\"" + "\"\"".repeat(30) + "\"", "v".repeat(20)};
     private static final String BREAKERS = "\",\n \u0000\u001f\u007f\u00ff0a~";
 
     private final Checks checks;
@@ -33,9 +36,12 @@ public final class RandomRunsTest {
 
     private void run(String seed) {
         int steps = 1 + random.nextInt(random.nextInt(10) == 0 ? 60 : 12);
+        if (random.nextInt(20) == 0) {
+            fillTheRoom(seed);
+        }
         for (int i = 0; i < steps; i++) {
             switch (random.nextInt(6)) {
-                case 0, 1 -> readText(seed);
+                case 0, 1 -> readText(seed, randomText());
                 case 2, 3 -> pickRows(seed);
                 case 4 -> askName(seed);
                 default -> writeTable(seed);
@@ -46,8 +52,25 @@ public final class RandomRunsTest {
         }
     }
 
-    private void readText(String seed) {
-        String text = randomText();
+    /** Rows so long that the texts together come near 65536 bytes, whatever comes behind them. */
+    private void fillTheRoom(String seed) {
+        int columns = 14 + random.nextInt(3);
+        StringBuilder text = new StringBuilder(String.join(",", Arrays.copyOf(NAMES, columns))).append('\n');
+        for (int c = 0; c < columns; c++) {
+            text.append(LONG_WORDS[random.nextInt(LONG_WORDS.length)]).append(c + 1 < columns ? ',' : '\n');
+        }
+        readText(seed, text.toString());
+        int rowSize = text.length() - 2 * columns;
+        int count = Math.min(499, Math.max(1, (65536 + random.nextInt(3000) - 2000) / rowSize));
+        for (int i = 0; i < count; i++) {
+            checks.due(seed + "row", x.row(0), plain.row(0));
+        }
+        int number = plain.pick(1);
+        checks.due(seed + "pick of " + count, x.pick(1), number);
+        askTable(seed, number);
+    }
+
+    private void readText(String seed, String text) {
         Checks.put(x, text);
         plain.put(text);
         int number = plain.read();
