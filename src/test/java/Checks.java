@@ -35,37 +35,25 @@ final class Checks {
 
     /** Makes the tray, which must be empty, hold just this text. */
     static void put(CommaTables x, String text) {
-        byte[] bytes = text.getBytes(StandardCharsets.ISO_8859_1);
-        for (int i = 0; i < bytes.length; i += 20) {
-            x.feed(four(bytes, i), four(bytes, i + 4), four(bytes, i + 8), four(bytes, i + 12), four(bytes, i + 16));
+        int[] fives = fives(text);
+        for (int i = 0; i < fives.length; i += 5) {
+            x.feed(fives[i], fives[i + 1], fives[i + 2], fives[i + 3], fives[i + 4]);
         }
-        x.end(bytes.length);
+        x.end(text.length());
+    }
+
+    /** The text's bytes as ints, the highest byte first, filled up with 0 to feeds of five. */
+    static int[] fives(String text) {
+        byte[] bytes = text.getBytes(StandardCharsets.ISO_8859_1);
+        int[] ints = new int[(bytes.length + 19) / 20 * 5];
+        for (int i = 0; i < bytes.length; i++) {
+            ints[i / 4] |= (bytes[i] & 255) << 24 - i % 4 * 8;
+        }
+        return ints;
     }
 
     static int read(CommaTables x, String text) {
         put(x, text);
         return x.read();
-    }
-
-    static int named(CommaTables x, int t, String name) {
-        put(x, name);
-        return x.named(t);
-    }
-
-    /** What was written last, asked byte by byte. */
-    static String written(CommaTables x) {
-        StringBuilder text = new StringBuilder();
-        for (int i = 0; x.out(i) >= 0; i++) {
-            text.append((char) x.out(i));
-        }
-        return text.toString();
-    }
-
-    private static int four(byte[] bytes, int from) {
-        int joined = 0;
-        for (int i = from; i < from + 4; i++) {
-            joined = joined << 8 | (i < bytes.length ? bytes[i] & 255 : 0);
-        }
-        return joined;
     }
 }
