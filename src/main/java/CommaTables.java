@@ -758,7 +758,8 @@ public final class CommaTables {
                 }
                 exponent--;
             }
-            if (rest * 2L > divisor || rest * 2L == divisor && (quotient & 1L) != 0L) {
+            // Never just halfway between two doubles: that takes 54 bits, and 15 digits have 50 at most.
+            if (rest * 2L > divisor) {
                 quotient++;
             }
             // Adding, not joining, lets a quotient rounded up to 2 to the 53 raise the exponent.

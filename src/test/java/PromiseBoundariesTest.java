@@ -22,6 +22,7 @@ public final class PromiseBoundariesTest {
         promise8TheTrayIsEmptyThen();
         promise9NoSuchTableOrColumn();
         promise10ZeroIfThereIsNone();
+        promise10To15RowsThatWrapAround();
         promise11FalseIfThereIsNone();
         promise12NoSuchTableColumnOrRow();
         promise13MinusOneIfThereIsNone();
@@ -332,11 +333,23 @@ public final class PromiseBoundariesTest {
         for (int t : outside(1, 2)) {
             checks.due("10: value(" + t + ", 0, 0)", x.value(t, 0, 0), 0);
         }
-        // Their products with two columns wrap around to cells that are there.
-        for (int row : new int[] {1 << 31, 1 << 30, (1 << 30) + 1, (1 << 31) + 2}) {
-            checks.due("10: value(1, 0, " + row + ")", x.value(1, 0, row), 0);
-        }
         checks.due("10: none of text is 0 too, not -1", noRows().value(1, 0, 0), 0);
+    }
+
+    /** Rows far beyond the last one whose first cell would be one that is there, if the product wrapped around. */
+    private static void promise10To15RowsThatWrapAround() {
+        Run x = new Run();
+        x.read("a,b,c,d\n,,,\n1,2,3,4\n");
+        for (int row : new int[] {1 << 30, (1 << 30) + 1, MIN, MIN + 1, -(1 << 30), 1 - (1 << 30)}) {
+            checks.due("10: value(1, 1, " + row + ")", x.value(1, 1, row), 0);
+            checks.due("11: missing(1, 1, " + row + ")", x.missing(1, 1, row), false);
+            checks.due("12: length(1, 1, " + row + ")", x.length(1, 1, row), -2);
+            checks.due("13: at(1, 1, " + row + ", 0)", x.at(1, 1, row, 0), -1);
+        }
+        for (int row : new int[] {1 << 30, (1 << 30) + 1}) {
+            checks.due("14: row(" + row + ")", x.row(row), 1);
+            checks.due("15: it is not there", x.pick(1), -2);
+        }
     }
 
     private static Run noRows() {

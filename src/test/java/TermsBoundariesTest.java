@@ -290,20 +290,32 @@ public final class TermsBoundariesTest {
         x.read("a,b\nz,y\ny,z\n");
         checks.due("words: of the first column alone", x.value(1, 0, 0), 1);
         checks.due("words: of the second column alone", x.value(1, 1, 0), 0);
+        x.read("a,b,c\np,p,q\nq,q,q\nr,q,r\n");
+        long[][] ofColumns = {{0, 1, 2}, {0, 1, 1}, {0, 0, 1}};
+        for (int c = 0; c < ofColumns.length; c++) {
+            for (int row = 0; row < 3; row++) {
+                checks.due("words: column " + c + ", row " + row, x.value(2, c, row), ofColumns[c][row]);
+            }
+        }
     }
 
     private static void asManyWordsAsRows() {
-        String[] cells = new String[499];
-        for (int row = 0; row < cells.length; row++) {
-            cells[row] = "w" + (999 - row);
+        String[] falling = new String[499];
+        String[] rising = new String[499];
+        String[] alike = new String[499];
+        for (int row = 0; row < 499; row++) {
+            falling[row] = "w" + (999 - row);
+            rising[row] = "w" + (100 + row);
+            alike[row] = "w";
         }
-        Run x = column(cells);
+        Run x = column(falling);
+        Run y = column(rising);
+        Run z = column(alike);
         for (int row : new int[] {0, 1, 249, 497, 498}) {
-            checks.due("499 unlike words: row " + row, x.value(1, 0, row), 498 - row);
+            checks.due("499 words falling: row " + row, x.value(1, 0, row), 498 - row);
+            checks.due("499 words rising: row " + row, y.value(1, 0, row), row);
+            checks.due("499 words alike: row " + row, z.value(1, 0, row), 0);
         }
-        java.util.Arrays.fill(cells, "w");
-        x = column(cells);
-        checks.due("499 like words", x.value(1, 0, 0) + x.value(1, 0, 498), 0);
     }
 
     /** "PICKED rows make a new table; lanes are guessed anew." */
@@ -335,6 +347,7 @@ public final class TermsBoundariesTest {
         written("n\n\" x\"\n\"x \"\n\" \"\n\"  \"\nx y\n", "n\n x\nx \n \n  \nx y\n");
         written("n\n\"\"\"\"\n\",\"\n\"x\"\"y\"\n", "n\n\"\"\"\"\n\",\"\n\"x\"\"y\"\n");
         written("n,m\n\" 1\",1\n", "n,m\n 1,1\n");
+        written("a,b,c\n,\" x \",\n", "a,b,c\n, x ,\n");
     }
 
     /** "Names are written in " if they have " or , or begin or end with a blank." */
