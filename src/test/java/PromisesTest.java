@@ -20,6 +20,7 @@ public final class PromisesTest {
         promise12And13LengthAndAt();
         promise14And15RowAndPick();
         promise16And17WriteAndOut();
+        theExampleOfTheReadme();
         checks.finish();
     }
 
@@ -151,5 +152,26 @@ public final class PromisesTest {
         checks.due("16: text of picked rows", x.text(2),
             "alive,age,steps,size,name\nfalse,-7,12,-0.5,\"Smith, \"\"Bo\"\"\"\n,,,,\n");
         checks.due("17: no such byte", x.out(67), -1);
+    }
+
+    /** Call by call as the README shows them, so that it goes on telling the truth. */
+    private static void theExampleOfTheReadme() {
+        CommaTables x = new CommaTables();
+        checks.due("README: feed", x.feed(0x612C620A, 0x312C780A, 0x322C790A, 0, 0), 20);
+        checks.due("README: end", x.end(12), 12);
+        int t = x.read();
+        checks.due("README: read", t, 1);
+        checks.due("README: rows", x.rows(t), 2);
+        checks.due("README: lane", x.lane(t, 0), 4);
+        checks.due("README: value of an int", x.value(t, 0, 1), 2);
+        checks.due("README: value of a word", x.value(t, 1, 1), 1);
+        x.feed(0x62000000, 0, 0, 0, 0);
+        x.end(1);
+        checks.due("README: named", x.named(t), 1);
+        checks.due("README: row", x.row(1), 1);
+        int picked = x.pick(t);
+        checks.due("README: pick", picked, 2);
+        checks.due("README: write", x.write(picked), 8);
+        checks.due("README: out", x.out(0), 97);
     }
 }
